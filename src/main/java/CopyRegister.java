@@ -266,10 +266,6 @@ public final class CopyRegister {
         if (first == null || second == null || i < 0 || !isWithin(way, 0, 1)) {
             return BAD;
         }
-        int rowLength = comparison.measure(first.lines, second.lines, commonLines);
-        if (i >= rowLength) {
-            return NONE;
-        }
         return comparison.placeOf(first.lines, second.lines, commonLines, i, way == 0);
     }
 
@@ -771,13 +767,13 @@ public final class CopyRegister {
         }
 
         /**
-         * Place of pair number `index`, after measure() of the same two.
+         * Place of pair number `index`, or NONE.
          * For a place in a, the first match in b is always the best one: it
          * leaves the most of b to the pairs that follow. So a place in a
          * belongs to the least pick as soon as that match loses nothing.
          */
         int placeOf(Lines a, Lines b, CommonLines common, int index, boolean inFirst) {
-            int missing = restFrom(0, 0);
+            int missing = measure(a, b, common);
             int startB = 0;
             int found = 0;
             for (int i = 0; i < a.size; i++) {

@@ -293,6 +293,17 @@ public final class ActsAndWorksTest {
         w.act(10, 30, -1, 2, 1);
         D.due("END on the act's day leaves none free", w.inRight(0, 10, 10) + w.inRight(0, 11, 10), 2);
         lifeThatLapsedAsKnownLater();
+        revivedByTheFirstOfAllActs();
+    }
+
+    private static void revivedByTheFirstOfAllActs() {
+        CopyRegister x = withAuthor();
+        x.work(0);
+        x.act(20, 40, -1, 2, 1);
+        D.due("its own day", x.inRight(0, 0, 20), 1);
+        D.due("the first day free", x.inRight(0, 1, 20), 0);
+        D.due("the last day free", x.inRight(0, 19, 20), 0);
+        D.due("revived", x.inRight(0, 20, 20), 1);
     }
 
     private static void lifeThatLapsedAsKnownLater() {

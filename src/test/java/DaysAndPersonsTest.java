@@ -161,7 +161,11 @@ public final class DaysAndPersonsTest {
         D.due("what came is free", x.sell(0, 1, 2, 11), 1);
         D.due("a pledge to the dead stands", x.redeem(0, 1, 0), 2);
         D.due("another pledge stands", x.redeem(0, 1, 3), 3);
+        x.pledge(0, 1, 0, 1);
+        x.pledge(0, 1, 3, 1);
         D.due("the heir of the heir", x.death(1, 10), NOBODY);
+        D.due("its pledge to the first one ended", x.redeem(0, 1, 0), NOT);
+        D.due("its pledge to the last one ended", x.redeem(0, 1, 3), NOT);
         D.due("to NOBODY", x.held(0, NOBODY, 10), 5);
         D.due("to NOBODY, whole works", x.held(1, NOBODY, 10) + x.held(2, NOBODY, 10), 32);
         D.due("the buyer's stay", x.held(0, 2, 10), 11);

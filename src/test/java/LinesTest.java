@@ -184,6 +184,14 @@ public final class LinesTest {
         D.due("none from the other side", y.alike(2, 0), 0);
         D.due("none alike", y.alike(3, 0), 0);
         D.due("still none", y.pair(3, 0, 0, 0), NONE);
+        CopyRegister z = withRows(same, row(4, 5), row(5, 4));
+        int[] shorter = {1, 2};
+        for (int w : shorter) {
+            D.due("20 of 20", z.alike(0, 0), 20);
+            D.due("nothing is left of it, first short", z.alike(w, 0), 1);
+            D.due("20 of 20", z.alike(0, 0), 20);
+            D.due("nothing is left of it, second short", z.alike(0, w), 1);
+        }
     }
 
     private static void copied() {
