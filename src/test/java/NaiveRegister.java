@@ -7,7 +7,8 @@ import java.util.TreeSet;
 /**
  * The document's words again, in the most roundabout way: nothing is kept but
  * what was told and when, and each answer is worked out anew from all of it.
- * It shares no idea with CopyRegister, so that both are not wrong together.
+ * It finds slips in CopyRegister's ways of keeping and counting. It can't find
+ * a wrong reading of the document: both were written from the same reading.
  */
 final class NaiveRegister {
     private static final int NONE = -1, BAD = -2, NOT = -3, FULL = -4, NOBODY = -5;
