@@ -174,9 +174,9 @@ final class LicencesSentences {
         s.refusesEach(full, BAD, bad);
         Told fullAndSilent = s.told(full, "agree(0, 0, false)");
         s.refusesEach(fullAndSilent, BAD, bad);
-        s.refuses(fullAndSilent, "license(0, 0, 1, 0, 0)", NOT);
+        s.refusesEach(fullAndSilent, NOT, "license(0, 0, 1, 0, 0)", "license(0, 3, 2, 0, 0)");
         Told fullAndLapsed = s.told(full, "days(500) days(500) days(1)");
-        s.refuses(fullAndLapsed, "license(0, 0, 1, 0, 0)", NOT);
+        s.refusesEach(fullAndLapsed, NOT, "license(0, 0, 1, 0, 0)", "license(0, 3, 2, 0, 3000)");
         s.refusesEach(fullAndLapsed, BAD, bad);
     }
 

@@ -25,6 +25,7 @@ final class LinesSentences {
         mostCommon();
         alikeNumbers();
         alikeInOrder();
+        alikeAskedBefore();
         alikeNotCommon();
         pairNumbers();
         pairNotSoMany();
@@ -61,7 +62,7 @@ final class LinesSentences {
     }
 
     private void mostLines() {
-        s.of(18, "A line more of a WORK: how many. BAD; FULL.");
+        s.of(18, "a row of numbers (1 .. 999), 20 at most.");
         Told nineteen = s.told(empty, Told.each(1, 19, "line(0, #)"));
         s.answers(nineteen, "line(0, 1)", 20);
         Told full = s.told(empty, TWENTY_LINES);
@@ -143,6 +144,19 @@ final class LinesSentences {
         s.answers(rows("1 2 3 4", "4 3 2 1"), "alike(0, 1)", 1);
         s.answers(rows("1 1 1", "1 1"), "alike(0, 1)", 2);
         s.answers(rows("1", "1 1 1"), "alike(0, 1)", 1);
+    }
+
+    /** The answer is of the works that are asked for, whichever were asked for before. */
+    private void alikeAskedBefore() {
+        s.of(20, "LENGTH of ALIKE of two WORKS");
+        Told longest = s.told("person() work(0) work(0) work(0) work(0)" + "line(0, 4) ".repeat(20)
+                + "line(1, 4) line(1, 5) line(2, 5) line(2, 4) alike(0, 0)");
+        int[] length = {20, 1, 1, 0};
+        for (int w = 0; w <= 3; w++) {
+            s.answers(longest, "alike(" + w + ", 0)", length[w]);
+            s.answers(longest, "alike(0, " + w + ")", length[w]);
+        }
+        s.answers(longest, "alike(1, 2)", 1);
         s.answers(s.told(rows("999", "999"), "alike(0, 1)"), "alike(1, 0)", 1);
     }
 
@@ -272,6 +286,9 @@ final class LinesSentences {
         s.answers(twentieth, "copied(0, 1, 5)", 1);
         s.answers(twentieth, "copied(0, 1, 6)", 0);
         s.answers(twentieth, "copied(0, 0, 100)", 1);
+        Told all18Of19 = s.told(empty, Told.each(1, 19, "line(0, #)") + Told.each(1, 18, "line(1, #)"));
+        s.answers(all18Of19, "copied(0, 1, 94)", 1);
+        s.answers(all18Of19, "copied(0, 1, 95)", 0);
     }
 
     private void copiedWithoutCommon() {

@@ -234,6 +234,9 @@ final class PersonsSentences {
         s.answers(dead, "redeem(0, 0, 1)", NOT);
         s.answers(dead, "redeem(0, 0, 11)", NOT);
         s.answers(dead, "redeem(0, 5, 11)", NOT);
+        Told toTheFirst = s.told(all, "work(11) pledge(0, 11, 0, 16) heir(11, 5) death(11, 0)");
+        s.answers(toTheFirst, "redeem(0, 11, 0)", NOT);
+        s.answers(toTheFirst, "sell(0, 5, 0, 16)", 1);
         Told others = s.told(all, "work(0) sell(0, 0, 1, 8) pledge(0, 1, 0, 8) heir(0, 1) death(0, 0)");
         s.answers(others, "redeem(0, 1, 0)", 8);
         s.answers(others, "sell(0, 1, 2, 8)", 1);

@@ -20,6 +20,7 @@ final class Probes {
             row.add(Call.to("count", what));
         }
         for (int p = 0; p < persons; p++) {
+            row.add(Call.to("died", p, today - 1));
             row.add(Call.to("died", p, today));
             row.add(Call.to("died", p, 3000));
         }
@@ -32,6 +33,7 @@ final class Probes {
     }
 
     private void readTerms(List<Call> row, int w) {
+        row.add(Call.to("end", w, today - 1));
         row.add(Call.to("end", w, today));
         row.add(Call.to("end", w, 3000));
         row.add(Call.to("inRight", w, today, today));
@@ -41,6 +43,7 @@ final class Probes {
     private void readShares(List<Call> row, int w) {
         row.add(Call.to("held", w, CopyRegister.NOBODY, today));
         for (int p = 0; p < persons; p++) {
+            row.add(Call.to("held", w, p, today - 1));
             row.add(Call.to("held", w, p, today));
             for (int use = 0; use <= 3; use++) {
                 row.add(Call.to("may", w, use, p, today, today));
@@ -59,7 +62,17 @@ final class Probes {
 
     /** Heirs, pledges, agreement and room are seen only by telling more; each row wants a register of its own. */
     List<List<Call>> telling() {
-        return List.of(tellPersons(), tellPledges(), tellDeaths(), tellLines(), tellWorksAndLicences());
+        List<List<Call>> rows = new ArrayList<>();
+        rows.add(tellPersons());
+        rows.add(tellPledges());
+        rows.add(tellDeaths());
+        rows.add(tellCommon());
+        rows.add(tellWorksAndLicences());
+        rows.add(tellTheNextDay());
+        for (int w : fewWorks()) {
+            rows.add(tellLines(w));
+        }
+        return rows;
     }
 
     private List<Call> tellPersons() {
@@ -67,8 +80,11 @@ final class Probes {
         for (int p = 0; p < persons; p++) {
             row.add(Call.to("heir", p, -1));
         }
-        for (int p = persons; p <= 13; p++) {
+        for (int p = persons; p <= 12; p++) {
             row.add(Call.to("person"));
+            for (int w : fewWorks()) {
+                row.add(Call.to("agree", w, p, false));
+            }
         }
         return row;
     }
@@ -102,18 +118,25 @@ final class Probes {
         return row;
     }
 
-    private List<Call> tellLines() {
+    /** Lines of one work alone: they show those of the others, which stay as they are. */
+    private List<Call> tellLines(int w) {
         List<Call> row = new ArrayList<>();
-        for (int w : fewWorks()) {
-            for (int i = 0; i <= 20; i++) {
-                row.add(Call.to("line", w, 1 + i));
-            }
-            row.add(Call.to("alike", w, w));
+        for (int x = 1; x <= 20; x++) {
+            row.add(Call.to("line", w, x));
         }
+        readLines(row, w);
+        return row;
+    }
+
+    private List<Call> tellCommon() {
+        List<Call> row = new ArrayList<>();
         for (int x = 1; x <= 25; x++) {
             row.add(Call.to("common", x, false));
         }
         row.add(Call.to("common", 999, false));
+        for (int w : fewWorks()) {
+            readLines(row, w);
+        }
         return row;
     }
 
@@ -132,6 +155,20 @@ final class Probes {
             row.add(Call.to("act", Math.min(3000, today + 10 * i), 7, -1, 1, 1));
         }
         row.add(Call.to("count", 2));
+        return row;
+    }
+
+    /** Licences may be for days to come. */
+    private List<Call> tellTheNextDay() {
+        List<Call> row = new ArrayList<>();
+        row.add(Call.to("days", 1));
+        for (int w : fewWorks()) {
+            for (int p = 0; p < persons; p++) {
+                for (int use = 0; use <= 3; use++) {
+                    row.add(Call.to("may", w, use, p, today + 1, today + 1));
+                }
+            }
+        }
         return row;
     }
 

@@ -96,6 +96,9 @@ final class Told {
     }
 
     private static List<List<Call>> parts(List<Call> row, int most) {
+        if (most < 1) {
+            throw new IllegalArgumentException("too much is told to leave room for a look at it");
+        }
         List<List<Call>> parts = new ArrayList<>();
         for (int from = 0; from < row.size(); from += most) {
             parts.add(row.subList(from, Math.min(row.size(), from + most)));
