@@ -2,8 +2,6 @@ import java.util.Map;
 import java.util.Set;
 import java.util.TreeMap;
 import java.util.TreeSet;
-import java.util.regex.Matcher;
-import java.util.regex.Pattern;
 
 /**
  * Tests that each belong to one sentence of the document. It sees to it that
@@ -11,17 +9,15 @@ import java.util.regex.Pattern;
  * that it names is left without a test.
  */
 final class Sentences {
-    private static final int PROMISES = 23;
-
     private final Due due = new Due("SentencesTest");
-    private final String document;
+    private final Document document;
     private final Map<Integer, Integer> count = new TreeMap<>();
     private final Map<Integer, Set<Integer>> refusals = new TreeMap<>();
     private int promise;
     private String sentence = "";
 
-    Sentences(String document) {
-        this.document = document.replaceAll("\\s+", " ");
+    Sentences(Document document) {
+        this.document = document;
     }
 
     /** What follows is for this promise, and for this sentence of the document. */
@@ -29,7 +25,7 @@ final class Sentences {
         promise = number;
         sentence = words;
         count.merge(number, 1, Integer::sum);
-        due.holds(at("stands in the document"), document.contains(words));
+        due.holds(at("stands in the document"), document.says(words));
     }
 
     Told told(String calls) {
@@ -61,7 +57,7 @@ final class Sentences {
         due.due(at(text), call.on(told.again()), want);
         String change = told.changeBy(call);
         due.holds(at(text + " changes nothing, but " + change), change.isEmpty());
-        due.holds(at(text + " is the promise's call"), promise == 1 || call.name().equals(callOf(promise)));
+        due.holds(at(text + " is the promise's call"), promise == 1 || call.name().equals(document.callOf(promise)));
         refusals.computeIfAbsent(promise, key -> new TreeSet<>()).add(want);
     }
 
@@ -91,17 +87,8 @@ final class Sentences {
         return form.replace("#", Integer.toString(number));
     }
 
-    private String textOf(int number) {
-        Matcher m = Pattern.compile("## Promise " + number + ": (.*?)(?=## |$)").matcher(document);
-        return m.find() ? m.group(1) : "";
-    }
-
-    private String callOf(int number) {
-        return textOf(number).split(" ")[0];
-    }
-
     void close() {
-        for (int number = 1; number <= PROMISES; number++) {
+        for (int number = 1; number <= Document.PROMISES; number++) {
             due.holds("promise " + number + " has a sentence tested", count.containsKey(number));
             wants(number, "BAD", CopyRegister.BAD);
             wants(number, "NOT", CopyRegister.NOT);
@@ -112,7 +99,7 @@ final class Sentences {
     }
 
     private void wants(int number, String word, int answer) {
-        boolean named = Pattern.compile("\\b" + word + "\\b").matcher(textOf(number)).find();
+        boolean named = document.promiseNames(number, word);
         boolean tested = refusals.getOrDefault(number, Set.of()).contains(answer);
         due.holds("promise " + number + ": " + word + " tested if and only if named",
                 number == 1 || named == tested);

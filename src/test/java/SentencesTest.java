@@ -1,11 +1,9 @@
 import java.io.IOException;
-import java.nio.file.Files;
-import java.nio.file.Path;
 
 /** Each sentence of the document that names a boundary case, promise by promise. */
 public final class SentencesTest {
     public static void main(String[] args) throws IOException {
-        Sentences s = new Sentences(Files.readString(Path.of("../shared/DOC.md")));
+        Sentences s = new Sentences(Document.read());
         new PersonsSentences(s).test();
         new ActsSentences(s).test();
         new SharesSentences(s).test();
